@@ -491,9 +491,9 @@ public final class SailorCandles {
         }
 
         void clearVotes(int ofShip) {
-            for (int sailor = 0; sailor < MOST_SAILORS; sailor++) {
-                if (shipWith(sailor) == ofShip) {
-                    mark(givenUp, sailor, false);
+            for (int sailor = 0; sailor < ship.length && sailor < givenUp.length; sailor++) {
+                if (ship[sailor] == ofShip) {
+                    givenUp[sailor] = false;
                 }
             }
         }
@@ -513,8 +513,8 @@ public final class SailorCandles {
 
         private int countOfShip(boolean[] marks, int ofShip) {
             int count = 0;
-            for (int sailor = 0; sailor < MOST_SAILORS; sailor++) {
-                if (shipWith(sailor) == ofShip && is(marks, sailor)) {
+            for (int sailor = 0; sailor < ship.length && sailor < marks.length; sailor++) {
+                if (ship[sailor] == ofShip && marks[sailor]) {
                     count++;
                 }
             }
