@@ -9,7 +9,7 @@ public final class AllTests {
 
     private static final Class<?>[] TESTS = {
         HarbourTest.class, VoyageTest.class, NightsTest.class, QuestionsTest.class, ForecastTest.class,
-        FaceTest.class, RandomRunsTest.class,
+        NightEdgesTest.class, AnswerEdgesTest.class, RefusalTest.class, FaceTest.class, RandomRunsTest.class,
     };
 
     private static int passed;
