@@ -25,18 +25,20 @@ final class AnswerEdgesTest {
         }
     }
 
+    /** From 5, three false sightings bring the trust to 0, and four right ones to 9. */
     private static void setTrust(SailorCandles x, int watcher, int emptyShip, int trust) {
-        while (x.trustOf(watcher) > trust) {
+        for (int journey = 0; journey < 3 && x.trustOf(watcher) > trust; journey++) {
             x.sail(emptyShip);
             x.sight(watcher, emptyShip);
             x.burnNights(3);
             x.comeHome(emptyShip);
         }
-        while (x.trustOf(watcher) < trust) {
+        for (int journey = 0; journey < 4 && x.trustOf(watcher) < trust; journey++) {
             x.sail(emptyShip);
             x.sight(watcher, emptyShip);
             x.comeHome(emptyShip);
         }
+        Check.equal("trust to start with", trust, x.trustOf(watcher));
     }
 
     // ---- the harbour
@@ -142,6 +144,24 @@ final class AnswerEdgesTest {
         Check.equal("nightsOut", 0, x.nightsOut(0));
     }
 
+    /** "the heights of its sailors' candles are wax again, and these are 0": of all sixteen, and of no others. */
+    static void promise07WaxOfAllSixteen() {
+        SailorCandles x = oneShip(15, 0);
+        x.addShip(1);
+        x.addSailor(1, 0, true);
+        x.buyWax(16 * 12);
+        x.sail(0);
+        x.sail(1);
+        x.burnNights(5);
+        Check.equal("comeHome(1)", 5, x.comeHome(1));
+        Check.equal("wax of the last", 7, x.wax());
+        Check.equal("comeHome(0)", 5, x.comeHome(0));
+        Check.equal("wax of all", 16 * 7, x.wax());
+        for (int sailor = 0; sailor < 16; sailor++) {
+            Check.equal("candleOf(" + sailor + ")", 0, x.candleOf(sailor));
+        }
+    }
+
     /** "from wherever it is": out for more than 20 nights, lost for some, with nothing left to give. */
     static void promise07HomeFromWherever() {
         SailorCandles x = oneShip(1, 1);
@@ -238,6 +258,42 @@ final class AnswerEdgesTest {
         for (int watcher = 0; watcher < 4; watcher++) {
             int again = watcher;
             Check.noState("sighted already", x, () -> x.sight(again, 4 - again));
+        }
+    }
+
+    /** "its bell is rung": of each ship by each pair of watchers, and no other's. */
+    static void promise08EachShipByEachPair() {
+        for (int ship = 0; ship < 5; ship++) {
+            for (int first = 0; first < 4; first++) {
+                for (int second = 0; second < 4; second++) {
+                    if (first != second) {
+                        ringAlone(ship, first, second);
+                    }
+                }
+            }
+        }
+    }
+
+    private static void ringAlone(int ship, int first, int second) {
+        SailorCandles x = oneShip(0, 0);
+        for (int more = 1; more < 5; more++) {
+            x.addShip(1);
+        }
+        for (int any = 0; any < 5; any++) {
+            x.sail(any);
+        }
+        Check.no("5", x.sight(first, ship));
+        Check.yes("10", x.sight(second, ship));
+        for (int any = 0; any < 5; any++) {
+            Check.yes("isRung(" + any + ")", x.isRung(any) == (any == ship));
+            Check.equal("trustIn(" + any + ")", any == ship ? 10 : 0, x.trustIn(any));
+        }
+        x.burnNights(3);
+        Check.no("isRung", x.isRung(ship));
+        Check.equal("bellsUnrung", 1, x.bellsUnrung());
+        for (int watcher = 0; watcher < 4; watcher++) {
+            boolean wrong = watcher == first || watcher == second;
+            Check.equal("trustOf(" + watcher + ")", wrong ? 3 : 5, x.trustOf(watcher));
         }
     }
 
@@ -441,6 +497,19 @@ final class AnswerEdgesTest {
         Check.yes("sight tells it too", x.sight(3, 0));
     }
 
+    /** "what sight() would tell now": not what was so when something was asked ahead of now. */
+    static void promise36OfNowWhateverWasAskedAhead() {
+        SailorCandles x = oneShip(0, 0);
+        x.sail(0);
+        x.sight(0, 0);
+        x.sight(1, 0);
+        Check.equal("waxAfter", 0, x.waxAfter(1));
+        x.comeHome(0);
+        x.sail(0);
+        Check.no("5", x.wouldRing(2, 0));
+        Check.no("sight tells it too", x.sight(2, 0));
+    }
+
     /** "un-rung or not any more": a loss that is due in 1, 2 or 3 nights, and one that is too late. */
     static void promise37LossInEachNight() {
         for (int ahead = 1; ahead <= 5; ahead++) {
@@ -635,18 +704,21 @@ final class AnswerEdgesTest {
     static void promise42WrapsAround() {
         boolean negative = false;
         boolean positive = false;
+        boolean dark = false;
         for (Scene scene : Scene.all()) {
             SailorCandles x = scene.make();
-            for (int night = 0; night < 6; night++) {
+            for (int step = 0; step < 3; step++) {
                 long due = digestOf(x).longValue();
                 Check.equal(scene.name, due, x.digest());
                 negative = negative || due < 0;
                 positive = positive || due > 0;
-                x.burnNights(1);
+                dark = dark || x.darkCandles() > 1;
+                x.burnNights(1 + step * 20);
             }
         }
         Check.yes("some digests are below 0", negative);
         Check.yes("some are above", positive);
+        Check.yes("some are of dark candles", dark);
     }
 
     private static BigInteger digestOf(SailorCandles x) {

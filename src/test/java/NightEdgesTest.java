@@ -457,6 +457,22 @@ final class NightEdgesTest {
         Check.equal("none", 5, x.trustOf(1));
     }
 
+    /** "the heights of its sailors' candles are wax again, and these are 0": of all sixteen, and of no others. */
+    static void promise10WaxOfAllSixteenIsBack() {
+        SailorCandles x = ships("000000000000000", "0");
+        x.buyWax(32 * 12);
+        sailAll(x);
+        giveUp(x, 0, 1, 2, 3, 4, 5, 6, 7);
+        Check.equal("new candles in night 12", 16, x.burnNights(20));
+        Check.equal("wax", 0, x.wax());
+        x.burnNights(1);
+        Check.yes("isLost", x.isLost(0));
+        Check.equal("3 of each", 15 * 3, x.wax());
+        for (int sailor = 0; sailor < 16; sailor++) {
+            Check.equal("candleOf(" + sailor + ")", sailor == 15 ? 3 : 0, x.candleOf(sailor));
+        }
+    }
+
     /** Several ships may be lost in one night. */
     static void promise10TwoShipsLostInANight() {
         SailorCandles x = ships("0", "0", "0");
