@@ -1,13 +1,17 @@
 /** Long runs of calls, drawn by a generator of our own with fixed seeds, compared with the Model. */
 final class RandomRunsTest {
 
-    private static final int RUNS = 400;
-    private static final int CALLS = 300;
+    private static final int RUNS = 3000;
+    /** An object is used for at most so many calls: what it answers to later ones is free. */
+    private static final int MOST_CALLS = 512;
+    /** No change and the questions behind it are more calls than these. */
+    private static final int CALLS_OF_A_ROUND = 16;
 
     private final SailorCandles x = new SailorCandles();
     private final Model model = new Model();
     private final StringBuilder told = new StringBuilder();
     private long seed;
+    private int calls;
 
     private RandomRunsTest(long seed) {
         this.seed = seed;
@@ -23,9 +27,9 @@ final class RandomRunsTest {
             if (run % 4 != 0) {
                 test.settle();
             }
-            for (int call = 0; call < CALLS; call++) {
+            while (test.calls + CALLS_OF_A_ROUND <= MOST_CALLS) {
                 test.change();
-                test.compareAll();
+                test.compareSome();
             }
         }
     }
@@ -122,22 +126,26 @@ final class RandomRunsTest {
         }
     }
 
-    private void compareAll() {
+    private void compareSome() {
         same("digest", x::digest, model::digest);
-        compareChapel();
-        int ship = drawNumber(model.ships.size());
-        int sailor = drawNumber(model.sailors.size());
-        int watcher = drawNumber(model.watchers.size());
-        compareShip(ship);
-        compareSailor(sailor);
+        switch (draw(6)) {
+            case 0 -> compareChapel();
+            case 1 -> compareShip(drawNumber(model.ships.size()));
+            case 2 -> compareSailor(drawNumber(model.sailors.size()));
+            case 3 -> compareWatcher(drawNumber(model.watchers.size()), drawNumber(model.ships.size()));
+            case 4 -> compareFuture();
+            default -> {
+                return;
+            }
+        }
+        same("digest behind the questions", x::digest, model::digest);
+    }
+
+    private void compareWatcher(int watcher, int ship) {
         same("trustOf " + watcher, () -> x.trustOf(watcher), () -> model.trust(watcher));
         same("wouldRing " + watcher + " " + ship,
             () -> x.wouldRing(watcher, ship), () -> model.wouldRing(watcher, ship));
         same("nightsUntilUnrung " + ship, () -> x.nightsUntilUnrung(ship), () -> model.nightsUntilUnrung(ship));
-        if (draw(4) == 0) {
-            compareFuture();
-        }
-        same("digest behind the questions", x::digest, model::digest);
     }
 
     private void compareChapel() {
@@ -188,6 +196,7 @@ final class RandomRunsTest {
     }
 
     private void same(String call, Answer got, Answer due) {
+        calls++;
         Object want = answerOf(due);
         Object answer = answerOf(got);
         if (!want.equals(answer)) {
