@@ -9,7 +9,8 @@ public final class AllTests {
 
     private static final Class<?>[] TESTS = {
         HarbourTest.class, VoyageTest.class, NightsTest.class, QuestionsTest.class, ForecastTest.class,
-        NightEdgesTest.class, AnswerEdgesTest.class, RefusalTest.class, FaceTest.class, RandomRunsTest.class,
+        NightEdgesTest.class, AnswerEdgesTest.class, RefusalTest.class, FaceTest.class, LanguageTest.class,
+        ReadmeTest.class, RandomRunsTest.class,
     };
 
     private static int passed;

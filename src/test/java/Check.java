@@ -40,7 +40,7 @@ final class Check {
 
     /** The class must be the very one: an exception of the Java machine is of a class below it. */
     static void fails(Class<? extends RuntimeException> due, String what, SailorCandles x, Call call) {
-        String before = Answers.of(x);
+        String before = Answers.inShort(x);
         Class<?> thrown = null;
         try {
             call.run();
@@ -50,7 +50,7 @@ final class Check {
         if (thrown != due) {
             throw new AssertionError(what + ": due is " + due.getSimpleName() + ", thrown was " + thrown);
         }
-        equal(what + " must change nothing", before, Answers.of(x));
+        equal(what + " must change nothing", before, Answers.inShort(x));
     }
 
     static void noIndex(String what, SailorCandles x, Call call) {
